@@ -1,4 +1,3 @@
-import java.lang.reflect.InvocationTargetException;
 import java.lang.reflect.Method;
 import java.lang.reflect.Modifier;
 import java.lang.reflect.Parameter;
@@ -60,15 +59,7 @@ final class CompareTest {
             throws ReflectiveOperationException {
         Method twin = Model.class.getMethod(method.getName(), method.getParameterTypes());
         String call = "run " + run + ": " + method.getName() + Arrays.toString(arguments);
-        dues.due(call, outcome(method, subject, arguments), outcome(twin, model, arguments));
-    }
-
-    private static Object outcome(Method method, Object on, Object[] arguments) throws IllegalAccessException {
-        try {
-            return method.invoke(on, arguments);
-        } catch (InvocationTargetException e) {
-            return "throws." + e.getCause().getClass().getSimpleName();
-        }
+        dues.due(call, Caller.outcome(method, subject, arguments), Caller.outcome(twin, model, arguments));
     }
 
     private Object[] arguments(Method method) {
